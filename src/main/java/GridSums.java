@@ -8,6 +8,7 @@ public final class GridSums {
     private static final long EDGE = 1L << 40;
     private static final long NONE = -(1L << 62);
     private static final long LIMB_MASK = 0xFFFFFFFFL;
+    private static final long SIGN_BIT = 1L << 63;
     private static final int LINES = 16;
     private static final int CORNERS = 64;
     private static final int MOST_SHARES = 1000000;
@@ -438,7 +439,7 @@ public final class GridSums {
         }
 
         private static boolean isBelowUnsigned(long a, long b) {
-            return a + Long.MIN_VALUE < b + Long.MIN_VALUE;
+            return (a ^ SIGN_BIT) < (b ^ SIGN_BIT);
         }
 
         /** The upper 64 of the 128 bits of a product, by halves of 32 bits. */

@@ -178,6 +178,11 @@ public final class PromiseTests {
         sums.cross(3, 5);
         dueFraction("start to start", sums, 0, 0, 1);
         dueFraction("start to start", sums, 1, 0, 1);
+        sums.line(6, 3, -5, 7, -3);
+        sums.line(7, 3, -5, -1, -7);
+        sums.cross(6, 7);
+        dueFraction("start to start off 0", sums, 0, 3, 1);
+        dueFraction("start to start off 0", sums, 1, -5, 1);
     }
 
     /** Both orders, both ways of each line: the answer is the same. */
