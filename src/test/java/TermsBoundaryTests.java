@@ -277,6 +277,8 @@ public final class TermsBoundaryTests {
         Scenes.dueCrossBothWays("upright, two places", 2, Scenes.line(2, 0, 2, 4), Scenes.line(2, 3, 2, 9));
         Scenes.dueCrossBothWays("level, two places", 2, Scenes.line(0, 2, 4, 2), Scenes.line(3, 2, 9, 2));
         Scenes.dueCrossBothWays("one within the other", 2, Scenes.line(0, 0, 9, 6), Scenes.line(3, 2, 6, 4));
+        Scenes.dueCrossBothWays("one end in common", 2, Scenes.line(0, 0, 9, 6), Scenes.line(0, 0, 3, 2));
+        Scenes.dueCrossBothWays("the other end in common", 2, Scenes.line(0, 0, 9, 6), Scenes.line(6, 4, 9, 6));
         Scenes.dueCrossBothWays("the same", 2, Scenes.line(0, 0, 3, 2), Scenes.line(0, 0, 3, 2));
         Scenes.dueCrossBothWays("across the grid", 2,
             Scenes.line(-EDGE, -EDGE, 1, 1), Scenes.line(0, 0, EDGE, EDGE));

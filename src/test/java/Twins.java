@@ -71,7 +71,6 @@ final class Twins {
         dueAlike(state + ": behind " + call + ": ", state.make(), asked);
     }
 
-    /** A throw says no more than that there is one: the name is Check's. */
     static void throwsAndChangesNothing(String call, String exception, ToLongFunction<GridSums> ask) {
         changesNothing(call, "throws." + exception, ask);
     }
