@@ -64,6 +64,8 @@ public final class TermsBoundaryTests {
             TermsBoundaryTests::crossInOnePlace);
         Check.holds("Terms", "two fractions in least terms (what is whole by 1)",
             TermsBoundaryTests::fractionsInLeastTerms);
+        Check.holds("Terms", "two fractions in least terms (what is whole by 1)",
+            TermsBoundaryTests::leastTermsOfCommonPartsBeyond64Bits);
         Check.holds("Terms", "(what is whole by 1)", TermsBoundaryTests::wholeByOne);
         Check.holds("Terms", "the lower part above 0", TermsBoundaryTests::lowerPartAboveZero);
         Check.holds("Terms", "ROUNDED is a fraction to the nearest whole number",
@@ -308,6 +310,33 @@ public final class TermsBoundaryTests {
         dueOnAxes(0, 1, EDGE, new long[] {1}, new long[] {0, 256});
         dueOnAxes(0, 1000000006, 3000000018L, new long[] {1}, new long[] {3});
         dueOnAxes(0, 2, 3, new long[] {2}, new long[] {3});
+    }
+
+    /**
+     * A level and an upright line meet in a whole place, so that all of what their lengths make is
+     * in common: 2 * 2^64 + 1, 121,937 * 2^64 + 1, 2^80, 2^82, 2^64 - 1, 2^63 and 2^64.
+     */
+    private static void leastTermsOfCommonPartsBeyond64Bits() {
+        long[][] lengths = {
+            {22871553L, 1613073154561L}, {1099514238867L, 2045758529179L}, {EDGE, EDGE}, {2 * EDGE, 2 * EDGE},
+            {4294967295L, 4294967297L}, {1L << 32, 1L << 31}, {1L << 32, 1L << 32},
+        };
+        for (long[] pair : lengths) {
+            dueWholeOfLengths(pair[0], pair[1]);
+            dueWholeOfLengths(pair[1], pair[0]);
+        }
+    }
+
+    private static void dueWholeOfLengths(long level, long upright) {
+        long x = level / 3 - EDGE;
+        long y = upright / 5 - EDGE;
+        GridSums sums = Scenes.linesBothWays(
+            Scenes.line(-EDGE, y, level - EDGE, y), Scenes.line(x, -EDGE, x, upright - EDGE));
+        for (int[] pair : Scenes.pairsBothWays()) {
+            String call = "lengths " + level + ", " + upright + ": cross(" + pair[0] + ", " + pair[1] + ")";
+            Check.due(call, GridSums.CROSSES, sums.cross(pair[0], pair[1]));
+            Scenes.dueWholePlace(call, sums, x, y);
+        }
     }
 
     private static void dueOnAxes(long whole, long part, long parts, long[] upper, long[] lower) {
